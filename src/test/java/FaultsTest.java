@@ -10,6 +10,7 @@ import java.util.regex.Pattern;
 public final class FaultsTest {
     private static final int NONE = ElsewhereStamps.NONE;
     private static final Check check = new Check("FaultsTest");
+    private static final ElsewhereStamps USED = new ElsewhereStamps();
     private static final Pattern TOKEN = Pattern.compile("[\\n ]*(?:([a-z]+)|([0-9]+)|(;)|([^\\n ])|$)", Pattern.DOTALL);
     private static final Map<String, Integer> WORDS = Map.of("lands", 0, "train", 0, "permit", 0, "needs", 0,
         "law", 0, "clerk", 0, "ride", 1, "wait", 1, "mark", 1, "seen", 2);
@@ -45,6 +46,18 @@ public final class FaultsTest {
         check.same(call + " fault", x.fault(0), fault);
         check.same(call + " place", x.fault(1), fault == 0 ? NONE : place);
         check.same(call + " count", x.count(sort), fault == 0 ? 1 : 0);
+        expectOnUsed(call, text, sort, fault, place);
+    }
+
+    /** What earlier texts have left on the tape of one object that has read them all is not read again. */
+    private static void expectOnUsed(String call, String text, int sort, int fault, int place) {
+        if (USED.count(sort) == 0) {
+            Tape.tell(USED, "", sort, NONE);
+        }
+        check.same(call + " in place", Tape.tell(USED, text, sort, 0), fault == 0 ? 0 : NONE);
+        check.same(call + " in place, fault", USED.fault(0), fault);
+        check.same(call + " in place, its place", USED.fault(1), fault == 0 ? NONE : place);
+        check.same(call + " in place, count", USED.count(sort), 1);
     }
 
     private static void byHand() {
@@ -79,6 +92,11 @@ public final class FaultsTest {
         expect("seen 0 0;", 1, 1, 0);
         expect("lands 3;", 1, 1, 0);
         expect("wait 0 1;", 2, 1, 0);
+        expect("landslands", 0, 1, 0);
+        expect("lands", 0, 1, 5);
+        expect("lands 4;lands 44 ; lands  ", 0, 1, 26);
+        expect("lands 4", 0, 1, 7);
+        expect("lands", 0, 1, 5);
         // FAULT 1 goes before a FAULT 2 that comes sooner.
         expect("lands 9;train 0 0 12 0;lands x", 0, 1, 29);
 

@@ -198,6 +198,10 @@ public final class PapersTest {
         ElsewhereStamps y = Tape.withRail(Tales.NO_TRAINS);
         check.same("two ask each other", y.ring(0, 0), 2);
         check.same("the least breaks it", y.ring(0, 1), 1);
+        check.same("land 0 asks", y.ring(0, 10), 2);
+        Tape.tell(y, Tales.EMPTY, Tape.RAIL, NONE);
+        check.same("of the other rail none asks", y.ring(1, 10), 0);
+        check.same("of the other rail no ring", y.ring(1, 0), NONE);
         // 0 asks 1, 1 asks 2, 2 asks 0, 2 asks 3, 3 asks 2: without 2 there is none.
         ElsewhereStamps z = Tape.withRail("lands 4;permit 0;permit 1;permit 2;permit 3;needs 0 1;needs 1 2;needs 2 0;"
             + "needs 2 3;needs 3 2;");
@@ -240,6 +244,23 @@ public final class PapersTest {
         check.same("rides at 5", w.could(0, 0, 5), 0);
         check.same("comes at 7", w.could(0, 0, 7), 2);
         check.same("free while he rides", w.could(0, 0, -2), 2);
+        couldAtTheEnds();
+    }
+
+    private static void couldAtTheEnds() {
+        ElsewhereStamps x = withLog(Tales.NO_TRAINS, "seen 1 0;");
+        check.same("seen at 0, at 50", x.could(0, 0, 50), 2);
+        check.same("seen at 0, began", x.could(0, 0, NONE), 2);
+        ElsewhereStamps y = withLog("lands 2;train 0 1 0 5;", "seen 0 0;seen 1 5;");
+        check.same("rides from hour 0 on", y.could(0, 0, 1), 0);
+        check.same("began", y.could(0, 0, NONE), 1);
+        check.same("free", y.could(0, 0, -2), 4);
+        // The train at 75 comes at 99; the one at 87 would come too late.
+        ElsewhereStamps z = withLog("lands 2;train 1 0 3 24;", "seen 0 99;");
+        check.same("seen at 99, at 75", z.could(0, 0, 75), 3);
+        check.same("seen at 99, at 76", z.could(0, 0, 76), 1);
+        check.same("seen at 99, certain", z.certain(0, 0, false), 24);
+        check.same("seen at 99, certain from", z.certain(0, 0, true), 76);
     }
 
     private static void cannotBe(ElsewhereStamps x) {
@@ -285,7 +306,33 @@ public final class PapersTest {
             check.same("waits " + turn, y.drawn(0, 77, turn + 1, 20), hour);
         }
         check.same("some were waits", hour > 0, true);
+        oneTrain();
         check.same("no clerks", Tape.withRail("permit 0;train 0 1 0 1;").drawn(0, 5, 60, 2), 0);
+    }
+
+    /** One train, and no way back: it is drawn even if it can't be taken; nothing is drawn for a mark. */
+    private static void oneTrain() {
+        ElsewhereStamps x = Tape.withRail("train 0 1 3 2;clerk 0 0;");
+        int s = 4;
+        int at = 0;
+        int hour = 0;
+        for (int turn = 1; turn <= 60; turn++) {
+            s = s * 1103515245 + 12345;
+            int kind = (s >>> 16) % 8;
+            s = s * 1103515245 + 12345;
+            if (kind < 3) {
+                s = s * 1103515245 + 12345;
+                int leave = hour + (3 - hour % 12 + 12) % 12;
+                hour = at == 0 ? leave + 2 : hour;
+                at = 1;
+            } else if (kind == 7) {
+                s = s * 1103515245 + 12345;
+                hour += 1 + (s >>> 16) % 12;
+            }
+            check.same("one train, where, turn " + turn, x.drawn(0, 4, turn, 10), at);
+            check.same("one train, hour, turn " + turn, x.drawn(0, 4, turn, 20), hour);
+        }
+        check.same("it was taken", at, 1);
     }
 
     private static void orders() {
@@ -416,6 +463,14 @@ public final class PapersTest {
         ElsewhereStamps x = Tape.withRail("lands 4;permit 0;permit 0;permit 0;needs 0 1;needs 0 2;needs 0 3;needs 1 1;needs 1 2;"
             + "law 1 2;law 2 3;law 3 1;");
         check.same("round in three", x.stuck(0), 1);
+        // Two go round, two could be made: there is no order all the same.
+        ElsewhereStamps y = Tape.withRail("lands 5;permit 0;needs 0 1;needs 0 2;needs 0 3;needs 0 4;law 3 2;law 2 3;law 1 4;"
+            + "clerk 1 0;clerk 2 0;clerk 3 0;clerk 4 0;");
+        check.same("two go round", y.stuck(0), 1);
+        check.same("no order of four", y.orders(0, 0, NONE), 0);
+        check.same("no first of four", y.orders(0, 0, 0), NONE);
+        check.same("never ready", y.lacks(0, 0, true), NONE);
+        check.same("nowhere ready", y.ledge(0, 0, false), NONE);
         for (int odd : ODD) {
             check.same("odd", x.stuck(odd), NONE);
         }

@@ -17,13 +17,17 @@ public final class PlainTest {
     }
 
     public static void main(String[] args) {
+        // One object for all: what an earlier rail has left behind must not be seen.
+        ElsewhereStamps x = Tape.withRail("");
+        Tape.tell(x, "", Tape.MONTH, NONE);
+        Tape.tell(x, "", Tape.LOG, NONE);
         int rails = args.length > 0 ? Integer.parseInt(args[0]) : USUAL;
         int first = args.length > 1 ? Integer.parseInt(args[1]) : 0;
         for (int seed = first; seed < first + rails; seed++) {
             Random random = new Random(seed);
             Plain plain = someRail(random);
-            ElsewhereStamps x = Tape.withRail(railText(plain, random));
             String name = "rail of seed " + seed + ": ";
+            check.same(name + "text", Tape.tell(x, railText(plain, random), Tape.RAIL, 0), 0);
             sameRail(name, x, plain);
             sameWays(name, x, plain, random);
             sameTrains(name, x, plain, random);
@@ -285,7 +289,7 @@ public final class PlainTest {
         for (int[] deed : deeds) {
             text.append(words[deed[0]]).append(' ').append(deed[1]).append(' ').append(deed[2]).append(';');
         }
-        check.same(name + "month", Tape.tell(x, text.toString(), Tape.MONTH, NONE), 0);
+        check.same(name + "month", Tape.tell(x, text.toString(), Tape.MONTH, 0), 0);
         check.same(name + "deeds", x.deed(0, NONE, 0), deeds.size());
         for (int k = 0; k < deeds.size(); k++) {
             for (int what = 0; what < 3; what++) {
@@ -325,7 +329,8 @@ public final class PlainTest {
         int many = random.nextInt(9);
         for (int i = 0; i < 40 && sights.size() < many; i++) {
             int land = random.nextInt(random.nextInt(30) == 0 ? 6 : plain.lands);
-            sights.add(new int[] {land, random.nextInt(100)});
+            int hour = random.nextInt(4) == 0 ? 99 * random.nextInt(2) : random.nextInt(100);
+            sights.add(new int[] {land, hour});
             if (random.nextInt(8) != 0 && plain.could(sights) == null) {
                 sights.remove(sights.size() - 1);
             }
@@ -334,7 +339,7 @@ public final class PlainTest {
         for (int[] sight : sights) {
             text.append("seen ").append(sight[0]).append(' ').append(sight[1]).append(';');
         }
-        check.same(name + "log", Tape.tell(x, text.toString(), Tape.LOG, NONE), 0);
+        check.same(name + "log", Tape.tell(x, text.toString(), Tape.LOG, 0), 0);
         check.same(name + "sights", x.sight(0, NONE, 0), sights.size());
         for (int k = 0; k < sights.size(); k++) {
             check.same(name + "sight land", x.sight(0, k, 0), sights.get(k)[0]);
