@@ -1,6 +1,6 @@
 /**
  * Rails, months and logs told as texts on a tape, and what follows from them.
- * The promises of DOC.md are the public methods; the words in capitals there are the classes below.
+ * The public methods are the promises of DOC.md; words in capitals are the terms that it tells.
  */
 public final class ElsewhereStamps {
     /** There is none. */
@@ -395,7 +395,7 @@ public final class ElsewhereStamps {
     private static long commonDivisor(long a, long b) {
         long more = a;
         long less = b;
-        // Each two steps halve the number: 64 are plenty for p below ten.
+        // Two steps halve the lesser number at least, which is ten at most: 64 steps are plenty.
         for (int step = 0; step < 64 && less != 0; step++) {
             long rest = more % less;
             more = less;
@@ -604,7 +604,7 @@ public final class ElsewhereStamps {
             return couples;
         }
 
-        /** The k-th TRAIN is the one behind which k others come to stand. */
+        /** The k-th TRAIN is the one before which k others stand on the board. */
         int boardTrain(int land, int hour, int k) {
             for (int train = 0; train < trains; train++) {
                 if (from[train] == land && trainsBefore(train, hour) == k) {
@@ -810,14 +810,32 @@ public final class ElsewhereStamps {
         private static final int FIRST_DEED = 6;
         private static final int SEEN = 9;
         private static final int MOST_NUMBERS = 4;
-        /** By line: how many NUMBERS it has; of each of four, the least and the most that can be. */
+        /** By line: how many NUMBERS it has; of each the least and the most that can be (rows are filled up by 0). */
         private static final int[] NUMBERS = {1, 4, 1, 2, 2, 2, 2, 2, 2, 2};
         private static final int[] LEAST = {
-            2, 0, 0, 0, 0, 0, 0, 1, 0, 0, 0, 0, 0, 0, 0, 0, 0, 0, 0, 0,
-            0, 0, 0, 0, 0, 0, 0, 0, 0, 1, 0, 0, 0, 0, 0, 0, 0, 0, 0, 0};
+            2, 0, 0, 0, // lands
+            0, 0, 0, 1, // train
+            0, 0, 0, 0, // permit
+            0, 0, 0, 0, // needs
+            0, 0, 0, 0, // law
+            0, 0, 0, 0, // clerk
+            0, 0, 0, 0, // ride
+            0, 1, 0, 0, // wait
+            0, 0, 0, 0, // mark
+            0, 0, 0, 0, // seen
+        };
         private static final int[] MOST = {
-            6, 0, 0, 0, 5, 5, 11, 24, 5, 0, 0, 0, 7, 5, 0, 0, 5, 5, 0, 0,
-            5, 5, 0, 0, 3, 11, 0, 0, 3, 24, 0, 0, 3, 7, 0, 0, 5, 99, 0, 0};
+            6, 0, 0, 0, // lands
+            5, 5, 11, 24, // train
+            5, 0, 0, 0, // permit
+            7, 5, 0, 0, // needs
+            5, 5, 0, 0, // law
+            5, 5, 0, 0, // clerk
+            3, 11, 0, 0, // ride
+            3, 24, 0, 0, // wait
+            3, 7, 0, 0, // mark
+            5, 99, 0, 0, // seen
+        };
 
         final Rail rail = new Rail();
         final Sheet month = new Sheet(MOST_DEEDS, DEED_COLUMNS);
