@@ -85,6 +85,9 @@ public final class ElsewhereStamps {
     }
 
     public int text(int sort, int at) {
+        // The tape is taken whatever the answer is, also where no text is read.
+        int length = told.length;
+        told.length = 0;
         told.fault = 0;
         told.place = NONE;
         if (sort < 0 || sort >= SORTS) {
@@ -94,8 +97,7 @@ public final class ElsewhereStamps {
         if (further ? told.howMany[sort] >= MOST_OF_A_SORT : !there(sort, at)) {
             return NO_SUCH;
         }
-        reader.readText(sort, told.tape, told.length);
-        told.length = 0;
+        reader.readText(sort, told.tape, length);
         told.fault = reader.fault;
         told.place = reader.place;
         if (reader.fault != 0) {

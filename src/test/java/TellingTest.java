@@ -115,12 +115,39 @@ public final class TellingTest {
         check.same("taken", x.end(1), NONE);
         Tape.tell(x, "lands 1;", 0, NONE);
         check.same("taken with a fault", x.end(1), NONE);
-        // No text is read, so the tape is not taken.
-        Tape.put(x, "lands 5;");
-        check.same("no such sort", x.text(3, NONE), -2);
-        check.same("none such", x.text(0, 1), -2);
-        check.same("the tape stays", x.text(0, 0), 0);
-        check.same("five lands", x.rail(0, 0), 5);
+        // No text is read where the answer is -2, but the tape is taken all the same.
+        checkRefusedTakesTape("none such", x, 0, 1);
+        checkRefusedTakesTape("none such by far", x, 0, Integer.MAX_VALUE);
+        checkRefusedTakesTape("none below NONE", x, 0, -2);
+        checkRefusedTakesTape("no month yet", x, 1, 0);
+        checkRefusedTakesTape("no log yet", x, 2, 0);
+        for (int odd : ODD) {
+            checkRefusedTakesTape("sort " + odd, x, odd, NONE);
+            checkRefusedTakesTape("sort " + odd + " at 0", x, odd, 0);
+        }
+        checkRefusedTakesTape("no such sort", x, 3, NONE);
+        for (int sort = 0; sort < 3; sort++) {
+            while (x.count(sort) < 2) {
+                Tape.tell(x, "", sort, NONE);
+            }
+            checkRefusedTakesTape("as many as may be, sort " + sort, x, sort, NONE);
+            checkRefusedTakesTape("a third one, sort " + sort, x, sort, 2);
+        }
+        check.same("what stood stands", x.rail(0, 0), 4);
+    }
+
+    private static void checkRefusedTakesTape(String name, ElsewhereStamps x, int sort, int at) {
+        x.end(0);
+        for (int row = 1; row <= 30; row++) {
+            x.feed(0, 0, 0, 0, 0);
+        }
+        check.same(name + ", the tape is full", x.feed(0, 0, 0, 0, 0), NONE);
+        check.same(name, x.text(sort, at), -2);
+        check.same(name + ", the fault", x.fault(0), 0);
+        check.same(name + ", its place", x.fault(1), NONE);
+        check.same(name + ", the tape is taken", x.end(1), NONE);
+        check.same(name + ", the tape begins anew", x.feed(0, 0, 0, 0, 0), 20);
+        x.end(0);
     }
 
     private static void textInPlace() {
