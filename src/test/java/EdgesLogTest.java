@@ -272,9 +272,15 @@ public final class EdgesLogTest {
             check.same("with trains, seen, later", x.could(0, 1, 13), 3);
             check.same("without trains, not seen", x.could(1, 0, 99), 3);
         }
+        // Seen at the first HOUR, behind a LOG by which he could be anywhere in each.
+        Tape.tell(x, "seen 0 0;", Tape.LOG, 1);
+        for (int hour = 0; hour < 100; hour++) {
+            check.same("anywhere at " + hour, x.could(1, 0, hour), 3);
+            check.same("where he was seen at first, at " + hour, x.could(1, 1, hour), 1);
+        }
         Tape.tell(x, "seen 5 0;", Tape.LOG, 0);
         check.same("not there", x.could(0, 0, 0), NONE);
-        check.same("the other one", x.could(0, 1, 1), 1);
+        check.same("the other one", x.could(0, 1, 0), 1);
         Tape.tell(x, "", Tape.LOG, 0);
         check.same("not seen any more", x.could(1, 0, 0), 3);
     }

@@ -117,6 +117,12 @@ public final class EdgesMonthTest {
         check.same("marked at 5", x.state(0, 0, 2, 101), 5);
         check.same("6 then", x.state(0, 0, 2, 20), 6);
         check.same("not before", x.state(0, 0, 1, 101), NONE);
+        check.sentence("100 + 10 p + l: the HOUR at which a PERMIT was MARKED by a LAND (NONE: not).");
+        check.same("marked at 0 is marked", withMonth(rail, "mark 0 0;").state(0, 0, 1, 101), 0);
+        check.same("marked at 298", withMonth(rail, DAYS + "wait 0 10;mark 0 0;").state(0, 0, 14, 101), 298);
+        check.same("not by a land that it needs not", withMonth(rail, "mark 0 0;").state(0, 0, 1, 102), NONE);
+        check.same("not by the land in which it is", withMonth(rail, "mark 0 0;").state(0, 0, 1, 100), NONE);
+        check.same("another permit is not", withMonth(rail, "mark 0 0;").state(0, 0, 1, 111), NONE);
     }
 
     private static void laws() {

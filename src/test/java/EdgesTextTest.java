@@ -207,6 +207,8 @@ public final class EdgesTextTest {
             String numbers = Tales.line("", RIGHT[line]);
             String word = WORDS[line];
             faulty(word.substring(1) + numbers, SORTS[line], 1, 0);
+            faulty("z" + word.substring(1) + numbers, SORTS[line], 1, 0);
+            faulty(word.substring(0, word.length() - 1) + "z" + numbers, SORTS[line], 1, 0);
             faulty(word.substring(0, word.length() - 1) + numbers, SORTS[line], 1, 0);
             faulty(word + "s" + numbers, SORTS[line], 1, 0);
             faulty(word + word + numbers, SORTS[line], 1, 0);

@@ -246,6 +246,10 @@ public final class EdgesWaysTest {
             check.same("three ways, cut " + n, y.cut(0, n, 0, 1, false), hours[n]);
             check.same("three ways, first of cut " + n, y.cut(0, n, 0, 1, true), takes[n]);
         }
+        check.sentence("(first) what the first takes (NONE: n is 0).");
+        check.same("nothing is taken", x.cut(0, 0, 0, 5, true), NONE);
+        check.same("nothing is taken where one is", x.cut(0, 0, 5, 5, true), NONE);
+        check.same("nothing is taken where one never comes", Tape.withRail("train 1 0 0 1;").cut(0, 0, 0, 1, true), NONE);
         check.sentence("(never is the latest, 999)");
         ElsewhereStamps z = Tape.withRail("lands 2;train 1 0 0 1;" + "train 0 1 0 1;".repeat(2));
         check.same("never, uncut", Tape.withRail("").cut(0, 0, 0, 1, false), 999);
