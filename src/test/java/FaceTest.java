@@ -93,6 +93,19 @@ public final class FaceTest {
             }
         }
         check.same("at most twelve classes", type.getDeclaredClasses().length < 12, true);
+        fewFields(type);
+        for (Class<?> inside : type.getDeclaredClasses()) {
+            fewFields(inside);
+        }
+    }
+
+    /** A class has some twenty fields beside its constants. */
+    private static void fewFields(Class<?> type) {
+        int fields = 0;
+        for (Field field : type.getDeclaredFields()) {
+            fields += Modifier.isStatic(field.getModifiers()) ? 0 : 1;
+        }
+        check.same(type + " has few fields: " + fields, fields <= 20, true);
     }
 
     private static void source() throws IOException {
